@@ -5,6 +5,7 @@ final class QueriesTest {
         piece();
         at();
         image();
+        imageAfterLike();
         imaged();
         like();
         count();
@@ -63,6 +64,15 @@ final class QueriesTest {
             image(1, 0) = 1; image(1, 1) = 3; image(1, 2) = 0; image(2, 0) = -2; image(-1, 0) = -2; image(0, 3) = -2;
             image(0, -1) = -2; image(2147483647, 0) = -2; image(8, 1) = -2; image(9, 1) = -2; count(4) = 8
             """);
+    }
+
+    /** like() looks at images that are none, and nothing of them may be left in the next one. */
+    private static void imageAfterLike() {
+        String calls = "make(0, 4) = 0; make(1, 5) = 1; store(0, 1, 2) = 0; make(2, 3) = 2; ";
+        Script plain = new Script("17 image").due(calls + "freeze(2) = 0");
+        Script after = new Script("17 image after like").due(calls + "like(0) = -1; freeze(2) = 0");
+        after.check("digest()", after.object.digest(), plain.object.digest());
+        after.due("image(0, 0) = 1; image(0, 1) = 3; image(0, 2) = 0; imaged(0, 1, 0) = -2; imaged(0, 0, 0) = -1");
     }
 
     private static void imaged() {
