@@ -119,8 +119,7 @@ public final class FrozenImages {
     }
 
     public int image(int i, int what) {
-        boolean there = state.isImage(i) && what >= 0 && what <= 2;
-        return tally.noted(there ? album.imageAt(i).property(what) : BAD);
+        return tally.noted(state.isImage(i) ? album.imageAt(i).property(what) : BAD);
     }
 
     public int imaged(int i, int n, int k) {
@@ -152,8 +151,7 @@ public final class FrozenImages {
     }
 
     public int undefined(int k) {
-        boolean there = k >= 1 && k <= REASONS;
-        return tally.noted(there ? tally.ofReason(k) : BAD);
+        return tally.noted(tally.ofReason(k));
     }
 
     public int type(int c) {
@@ -1255,7 +1253,7 @@ public final class FrozenImages {
         }
 
         int ofReason(int k) {
-            return k >= 1 && k <= REASONS ? reasons[k] : 0;
+            return k >= 1 && k <= REASONS ? reasons[k] : BAD;
         }
 
         int ofAllReasons() {
