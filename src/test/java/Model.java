@@ -94,6 +94,20 @@ final class Model {
         }
     }
 
+    /** What digest() answers now, and after each back() then. */
+    List<Long> digests() {
+        Memory now = memory;
+        List<Memory> all = new ArrayList<>(saved);
+        List<Long> digests = new ArrayList<>(List.of(digest()));
+        while (!saved.isEmpty()) {
+            memory = saved.remove(saved.size() - 1);
+            digests.add(digest());
+        }
+        memory = now;
+        saved.addAll(all);
+        return digests;
+    }
+
     private void save(Memory before) {
         saved.add(before);
         if (saved.size() > 5) {

@@ -19,7 +19,7 @@ final class ProgramsTest {
             count(8) = 2; count(4) = 4; count(9) = 0; clear() = 2
             """);
         for (int i = 1; i <= 120; i++) {
-            s.check("type(32), call " + i, s.object.type(32), i);
+            s.due(i, "type", 32);
         }
         s.due("""
             type(59) = -4; type(128) = -2; count(6) = 1; count(4) = 5; count(8) = 120; does() = -130; clear() = 120;
@@ -121,9 +121,8 @@ final class ProgramsTest {
             make(0, 4) = 0; set(1, 5) = 5; store(0, 1, 1) = 0; copy(2, 0) = 2; digest() = %d
             """.formatted(digestOf()));
         s.typed("m3 2;w0 3 2;v0 2;s1 9;z3;e2;c4 1;l5 0 1;");
-        long before = s.object.digest();
-        s.check("does()", s.object.does(), -7007);
-        s.check("digest()", s.object.digest(), before);
+        long before = s.digest();
+        s.due("does() = -7007").due(before, "digest");
         s.due("count(0) = 1; count(1) = 0; count(9) = 4; at(0, 0) = 5; register(3, 0) = 0; register(1, 1) = 5");
         s.due("back() = 3; register(2, 0) = 0");
         new Script("24 the text stays, and the program is one saved state").does("s0 1;s1 2;m2 3;", 3)

@@ -1,52 +1,115 @@
+import java.util.ArrayList;
+import java.util.Arrays;
+import java.util.List;
 import java.util.regex.Matcher;
 import java.util.regex.Pattern;
 
-/** Calls on one new object, written as in the document: make(0, 4) = 0; at(0, 0) = -1. */
+/**
+ * Calls on one new object, written as in the document: make(0, 4) = 0; at(0, 0) = -1. The plain
+ * model makes the same calls; at the end of a test, the state after each call, and each state that
+ * is saved then, is compared with the model's.
+ */
 final class Script {
     private static final Pattern CALL =
-        Pattern.compile("\\s*(\\w+)\\(([^)]*)\\)\\s*=\\s*(-?\\d+)\\s*");
+        Pattern.compile("\\s*(\\w+)\\(([^)]*)\\)\\s*(?:=\\s*(-?\\d+)\\s*)?");
+    // an object is used for 512 calls: some are kept for looking at the saved states
+    private static final int MOST_CALLS = 495;
+    private static final List<Script> scripts = new ArrayList<>();
     private static int wrong = 0;
-    private static int calls = 0;
+    private static int answers = 0;
 
-    final FrozenImages object = new FrozenImages();
+    /** A call, and what digest() has to answer after it and after each back() then. */
+    private record Call(String method, int[] arguments, List<Long> digests) { }
+
+    private final FrozenImages object = new FrozenImages();
+    private final Model model = new Model();
     private final String name;
+    private final List<Call> calls = new ArrayList<>();
 
     Script(String name) {
         this.name = name;
+        scripts.add(this);
     }
 
     /** Makes the calls and says of each that does not answer as written. */
     Script due(String text) {
-        for (String part : text.split(";")) {
-            if (!part.isBlank()) {
-                Matcher call = CALL.matcher(part);
-                if (!call.matches()) {
-                    throw new IllegalStateException(name + ": not a call: " + part);
-                }
-                check(part.strip(), answer(call.group(1), numbers(call.group(2))),
-                    Long.parseLong(call.group(3)));
+        for (Matcher call : calls(text)) {
+            if (call.group(3) == null) {
+                throw new IllegalStateException(name + ": no answer to " + call.group());
             }
+            make(call, Long.parseLong(call.group(3)));
         }
+        return this;
+    }
+
+    /** Makes the calls, each of which has to answer the same. */
+    Script all(long due, String text) {
+        for (Matcher call : calls(text)) {
+            if (call.group(3) != null) {
+                throw new IllegalStateException(name + ": two answers to " + call.group());
+            }
+            make(call, due);
+        }
+        return this;
+    }
+
+    /** Makes one call with its answer written apart. */
+    Script due(long due, String method, int... arguments) {
+        String call = method + Arrays.toString(arguments);
+        check(call, call(method, arguments), due);
         return this;
     }
 
     /** Types a program in an empty buffer and carries it out. */
     Script does(String program, int due) {
         typed(program);
-        check("does() of '" + program + "'", object.does(), due);
+        check("does() of '" + program + "'", call("does"), due);
         return this;
     }
 
     Script typed(String program) {
-        object.clear();
+        call("clear");
         for (int i = 0; i < program.length(); i++) {
-            check("type(" + (int) program.charAt(i) + ")", object.type(program.charAt(i)), i + 1);
+            due(i + 1, "type", program.charAt(i));
         }
         return this;
     }
 
+    long digest() {
+        return call("digest");
+    }
+
+    private static List<Matcher> calls(String text) {
+        List<Matcher> calls = new ArrayList<>();
+        for (String part : text.split(";")) {
+            if (!part.isBlank()) {
+                Matcher call = CALL.matcher(part.strip());
+                if (!call.matches()) {
+                    throw new IllegalStateException("not a call: " + part);
+                }
+                calls.add(call);
+            }
+        }
+        return calls;
+    }
+
+    private void make(Matcher call, long due) {
+        check(call.group(), call(call.group(1), numbers(call.group(2))), due);
+    }
+
+    private long call(String method, int... arguments) {
+        if (calls.size() == MOST_CALLS) {
+            throw new IllegalStateException(name + ": too many calls");
+        }
+        long due = model.answer(method, arguments);
+        calls.add(new Call(method, arguments, model.digests()));
+        long got = answer(object, method, arguments);
+        check("the model: call " + calls.size() + ", " + method, got, due);
+        return got;
+    }
+
     void check(String call, long got, long due) {
-        calls++;
+        answers++;
         if (got != due) {
             wrong++;
             System.out.println(name + ": " + call + " answered " + got + ", due is " + due);
@@ -55,9 +118,30 @@ final class Script {
 
     /** Ends a test: exit code 1 if an answer was wrong. */
     static void end() {
-        System.out.println(calls + " answers, " + wrong + " wrong");
-        if (wrong != 0 || calls == 0) {
+        for (Script script : scripts) {
+            script.follow();
+        }
+        System.out.println(answers + " answers, " + wrong + " wrong");
+        if (wrong != 0 || answers == 0) {
             System.exit(1);
+        }
+    }
+
+    /** Looks at the state after each call, each time on a new object, up to the first fault. */
+    private void follow() {
+        int before = wrong;
+        for (int n = 1; n <= calls.size() && wrong == before; n++) {
+            FrozenImages twin = new FrozenImages();
+            for (Call call : calls.subList(0, n)) {
+                answer(twin, call.method(), call.arguments());
+            }
+            List<Long> digests = calls.get(n - 1).digests();
+            for (int i = 0; i < digests.size() && wrong == before; i++) {
+                if (i > 0) {
+                    twin.back();
+                }
+                check("after " + n + " calls and " + i + " back(): digest()", twin.digest(), digests.get(i));
+            }
         }
     }
 
@@ -71,10 +155,6 @@ final class Script {
             numbers[i] = Integer.parseInt(parts[i].strip());
         }
         return numbers;
-    }
-
-    private long answer(String method, int[] a) {
-        return answer(object, method, a);
     }
 
     static long answer(FrozenImages x, String method, int... a) {

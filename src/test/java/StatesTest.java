@@ -35,15 +35,15 @@ final class StatesTest {
                 "freeze(0) = 0", "forget(0) = 2", "forget(5) = 0", "budget(40) = 40", "budget(9) = 40"}) {
             Script s = new Script("25 saved by " + call)
                 .due("make(2, 3) = 0; set(3, 7) = 7; store(2, 3, 1) = 0; copy(0, 2) = 2; count(9) = 4");
-            long before = s.object.digest();
+            long before = s.digest();
             s.due(call).due("count(9) = 5; back() = 4");
-            s.check("digest()", s.object.digest(), before);
+            s.due(before, "digest");
         }
         Script s = new Script("25 saved by does()");
         s.typed("m0 1;s1 2;");
-        long before = s.object.digest();
+        long before = s.digest();
         s.due("does() = 2; count(9) = 1; back() = 0");
-        s.check("digest()", s.object.digest(), before);
+        s.due(before, "digest");
     }
 
     private static void whatDoesNotSave() {
@@ -54,7 +54,7 @@ final class StatesTest {
             store(0, 1, 1) = -11; load(0, 0, 1) = -11; blit(0, 1, 1) = -11; freeze(1) = -11; forget(6) = -2; budget(0) = -2;
             count(9) = 1; back() = 0; count(0) = 0
             """);
-        s.check("digest() twice", s.object.digest(), s.object.digest());
+        s.due(s.digest(), "digest");
         s.due("count(9) = 0");
     }
 
@@ -92,7 +92,7 @@ final class StatesTest {
             h = values(h, 0, -1, -1);
         }
         Script s = new Script("26 digest of a new object");
-        s.check("digest()", s.object.digest(), h);
+        s.due(h, "digest");
     }
 
     private static void digestByHand() {
@@ -109,15 +109,15 @@ final class StatesTest {
         h = values(h, 2, 1, 1, 1, 0, 7, -1);
         h = values(h, 1, 0, 0, 1, 0, -1);
         h = values(h, 2, 6, 1, 1100, 999, -1, -1, 7, -1);
-        s.check("digest()", s.object.digest(), h);
+        s.due(h, "digest");
     }
 
     private static void digestChangesNothing() {
         Script s = new Script("26 digest changes nothing").due("make(0, 2) = 0; freeze(0) = 0; end(0) = -14");
-        long first = s.object.digest();
-        s.check("digest() again", s.object.digest(), first);
+        long first = s.digest();
+        s.due(first, "digest");
         s.due("count(4) = 0; count(5) = 0; count(7) = 1; count(9) = 2");
-        s.check("digest() at last", s.object.digest(), first);
+        s.due(first, "digest");
     }
 
     private static long values(long begin, int... values) {
