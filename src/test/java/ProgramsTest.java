@@ -121,7 +121,7 @@ final class ProgramsTest {
             make(0, 4) = 0; set(1, 5) = 5; store(0, 1, 1) = 0; copy(2, 0) = 2; digest() = %d
             """.formatted(digestOf()));
         s.typed("m3 2;w0 3 2;v0 2;s1 9;z3;e2;c4 1;l5 0 1;");
-        long before = s.digest();
+        long before = s.ask("digest");
         s.due("does() = -7007").due(before, "digest");
         s.due("count(0) = 1; count(1) = 0; count(9) = 4; at(0, 0) = 5; register(3, 0) = 0; register(1, 1) = 5");
         s.due("back() = 3; register(2, 0) = 0");

@@ -71,7 +71,7 @@ final class QueriesTest {
         String calls = "make(0, 4) = 0; make(1, 5) = 1; store(0, 1, 2) = 0; make(2, 3) = 2; ";
         Script plain = new Script("17 image").due(calls + "freeze(2) = 0");
         Script after = new Script("17 image after like").due(calls + "like(0) = -1; freeze(2) = 0");
-        after.due(plain.digest(), "digest");
+        after.due(plain.ask("digest"), "digest");
         after.due("image(0, 0) = 1; image(0, 1) = 3; image(0, 2) = 0; imaged(0, 1, 0) = -2; imaged(0, 0, 0) = -1");
     }
 

@@ -35,13 +35,13 @@ final class StatesTest {
                 "freeze(0) = 0", "forget(0) = 2", "forget(5) = 0", "budget(40) = 40", "budget(9) = 40"}) {
             Script s = new Script("25 saved by " + call)
                 .due("make(2, 3) = 0; set(3, 7) = 7; store(2, 3, 1) = 0; copy(0, 2) = 2; count(9) = 4");
-            long before = s.digest();
+            long before = s.ask("digest");
             s.due(call).due("count(9) = 5; back() = 4");
             s.due(before, "digest");
         }
         Script s = new Script("25 saved by does()");
         s.typed("m0 1;s1 2;");
-        long before = s.digest();
+        long before = s.ask("digest");
         s.due("does() = 2; count(9) = 1; back() = 0");
         s.due(before, "digest");
     }
@@ -54,7 +54,7 @@ final class StatesTest {
             store(0, 1, 1) = -11; load(0, 0, 1) = -11; blit(0, 1, 1) = -11; freeze(1) = -11; forget(6) = -2; budget(0) = -2;
             count(9) = 1; back() = 0; count(0) = 0
             """);
-        s.due(s.digest(), "digest");
+        s.due(s.ask("digest"), "digest");
         s.due("count(9) = 0");
     }
 
@@ -114,7 +114,7 @@ final class StatesTest {
 
     private static void digestChangesNothing() {
         Script s = new Script("26 digest changes nothing").due("make(0, 2) = 0; freeze(0) = 0; end(0) = -14");
-        long first = s.digest();
+        long first = s.ask("digest");
         s.due(first, "digest");
         s.due("count(4) = 0; count(5) = 0; count(7) = 1; count(9) = 2");
         s.due(first, "digest");
