@@ -1,4 +1,7 @@
+import com.sun.source.tree.CompilationUnitTree;
+import com.sun.source.util.JavacTask;
 import java.io.IOException;
+import java.lang.management.ManagementFactory;
 import java.lang.reflect.Constructor;
 import java.lang.reflect.Field;
 import java.lang.reflect.Member;
@@ -8,14 +11,14 @@ import java.nio.file.Files;
 import java.nio.file.Path;
 import java.util.ArrayList;
 import java.util.Arrays;
-import java.util.HashSet;
-import java.util.IdentityHashMap;
 import java.util.List;
-import java.util.Map;
 import java.util.Set;
 import java.util.TreeSet;
+import javax.tools.JavaCompiler;
+import javax.tools.StandardJavaFileManager;
+import javax.tools.ToolProvider;
 
-/** What of LANGUAGE.md a program can see: the face, the words that are ruled out, sizes and room. */
+/** What of LANGUAGE.md a program can see: the face, the parts of the language that are used, sizes and room. */
 final class LanguageTest {
     private static final Path SOURCE = Path.of("src/main/java/FrozenImages.java");
     private static final String FACE = "int make(int,int);int end(int);int set(int,int);int copy(int,int);"
@@ -23,16 +26,14 @@ final class LanguageTest {
         + "int freeze(int);int forget(int);int budget(int);int register(int,int);int piece(int,int);int at(int,int);"
         + "int image(int,int);int imaged(int,int,int);int like(int);int count(int);int undefined(int);int type(int);"
         + "int clear();int does();int back();long digest();";
-    private static final String[] RULED_OUT = {"throw", "throws", "try", "catch", "synchronized", "assert", "import",
-        "package", "protected", "volatile", "native", "transient", "record", "yield", "equals", "hashCode", "toString",
-        "var", "Object", "Random", "Thread", "System.currentTimeMillis", "System.nanoTime"};
+    private static final int ROOM_OF_A_RUN = 100_000;
     private static int wrong = 0;
 
     public static void main(String[] args) throws IOException, IllegalAccessException {
         face();
         constants();
-        classesInside();
-        source();
+        text();
+        tree();
         room();
         System.out.println(wrong == 0 ? "the language is kept to" : wrong + " faults");
         if (wrong != 0) {
@@ -64,21 +65,20 @@ final class LanguageTest {
             "the class is not public and final");
         Set<String> due = new TreeSet<>(Arrays.asList(FACE.split(";")));
         Set<String> found = new TreeSet<>();
-        Set<String> names = new HashSet<>();
         for (Method m : FrozenImages.class.getDeclaredMethods()) {
             if (!isPrivate(m)) {
                 found.add(signature(m));
-                names.add(m.getName());
                 need(m.getModifiers() == Modifier.PUBLIC, "not just public: " + m);
             }
         }
         need(found.equals(due), "the face is " + found);
-        for (Method m : FrozenImages.class.getDeclaredMethods()) {
-            need(!isPrivate(m) || !names.contains(m.getName()), "private with a public name: " + m);
-        }
         Constructor<?>[] constructors = FrozenImages.class.getDeclaredConstructors();
         need(constructors.length == 1 && constructors[0].getModifiers() == Modifier.PUBLIC
             && constructors[0].getParameterCount() == 0, "the constructor is not the document's");
+        for (Class<?> inside : FrozenImages.class.getDeclaredClasses()) {
+            need(!Modifier.isPublic(inside.getModifiers()) && !Modifier.isProtected(inside.getModifiers()),
+                "a class that others see: " + inside);
+        }
     }
 
     private static void constants() throws IllegalAccessException {
@@ -93,82 +93,54 @@ final class LanguageTest {
             "the constants are " + found);
     }
 
-    private static void classesInside() {
-        Class<?>[] inside = FrozenImages.class.getDeclaredClasses();
-        need(inside.length <= 12, "too many classes");
-        for (Class<?> c : inside) {
-            need(Modifier.isStatic(c.getModifiers()) && !Modifier.isPublic(c.getModifiers()), "not static or public: " + c);
-            long fields = Arrays.stream(c.getDeclaredFields()).filter(f -> !Modifier.isStatic(f.getModifiers())).count();
-            need(fields <= 20, "too many fields: " + c);
-            for (Field f : c.getDeclaredFields()) {
-                need(!Modifier.isStatic(f.getModifiers()) || Modifier.isFinal(f.getModifiers()), "static state: " + f);
-            }
-        }
-    }
-
-    private static void source() throws IOException {
+    private static void text() throws IOException {
         String text = Files.readString(SOURCE);
         need(text.chars().allMatch(c -> c == '\n' || c >= 32 && c < 127), "signs that are not plain");
-        String code = text.replaceAll("(?s)/\\*.*?\\*/", "").replaceAll("//[^\n]*", "");
-        for (String word : RULED_OUT) {
-            need(!code.matches("(?s).*\\b" + word.replace(".", "\\.") + "\\b.*"), "ruled out: " + word);
-        }
-        need(!code.contains("->") && !code.contains("::") && !code.contains("\""), "a lambda or a text");
-        need(!code.matches("(?s).*static\\s*\\{.*"), "a static block");
-        int begin = 0;
         String[] lines = text.split("\n");
         for (int i = 0; i < lines.length; i++) {
-            if (lines[i].matches("(    ){1,2}[a-z].*[)] [{]")) {
-                begin = i;
-            }
-            if (lines[i].matches("(    ){1,2}[}]")) {
-                need(i - begin < 60, "too long from line " + (begin + 1));
-                begin = i;
-            }
             need(lines[i].length() <= 100, "too long a line: " + (i + 1));
         }
     }
 
-    /** All calls of a run share some 7.3 million fields and elements: an object takes a few thousand. */
-    private static void room() throws IllegalAccessException {
-        FrozenImages x = new FrozenImages();
-        Map<Object, Integer> first = new IdentityHashMap<>();
-        walk(x, first);
-        int elements = first.values().stream().mapToInt(Integer::intValue).sum();
-        need(first.size() <= 150 && elements <= 6000, "a new object takes " + first.size() + ", " + elements);
-        for (int call = 0; call < 500; call++) {
-            x.make(call % 6, 1 + call % 12);
-            x.freeze(call % 6);
-            x.does();
-            if (call % 7 == 0) {
-                x.back();
-            }
+    private static void tree() throws IOException {
+        Set<String> face = new TreeSet<>();
+        for (String signature : FACE.split(";")) {
+            face.add(signature.replaceAll(".* (\\w+)\\(.*", "$1"));
         }
-        Map<Object, Integer> last = new IdentityHashMap<>();
-        walk(x, last);
-        need(last.keySet().equals(first.keySet()), "calls keep new objects");
-    }
-
-    private static void walk(Object o, Map<Object, Integer> seen) throws IllegalAccessException {
-        if (o == null || seen.containsKey(o)) {
-            return;
-        }
-        if (o instanceof int[] row) {
-            seen.put(o, row.length);
-        } else if (o instanceof Object[] row) {
-            seen.put(o, row.length);
-            for (Object part : row) {
-                walk(part, seen);
-            }
-        } else {
-            Field[] fields = o.getClass().getDeclaredFields();
-            seen.put(o, fields.length);
-            for (Field f : fields) {
-                if (!f.getType().isPrimitive()) {
-                    f.setAccessible(true);
-                    walk(f.get(o), seen);
+        JavaCompiler compiler = ToolProvider.getSystemJavaCompiler();
+        try (StandardJavaFileManager files = compiler.getStandardFileManager(null, null, null)) {
+            JavacTask task = (JavacTask) compiler.getTask(null, files, null, null, null, files.getJavaFileObjects(SOURCE));
+            for (CompilationUnitTree unit : task.parse()) {
+                for (String fault : LanguageRules.faults(unit, face)) {
+                    need(false, fault);
                 }
             }
+        }
+    }
+
+    /** All calls of a run share some 7.3 million fields and elements: 512 dear ones may take little of it. */
+    private static void room() {
+        com.sun.management.ThreadMXBean threads = (com.sun.management.ThreadMXBean) ManagementFactory.getThreadMXBean();
+        run();
+        long before = threads.getCurrentThreadAllocatedBytes();
+        run();
+        long bytes = threads.getCurrentThreadAllocatedBytes() - before;
+        need(bytes <= ROOM_OF_A_RUN, "a run takes " + bytes + " bytes");
+    }
+
+    private static void run() {
+        FrozenImages x = new FrozenImages();
+        for (int call = 0; call < 120; call++) {
+            x.type("m0 4;w0 0 2;z0;s1 9;v1 -1;j1 4;".charAt(call % 31));
+        }
+        for (int call = 120; call < 512; call += 7) {
+            x.make(call % 6, 1 + call % 12);
+            x.store(call % 6, call % 5, 2);
+            x.freeze(call % 6);
+            x.does();
+            x.like(call % 10);
+            x.back();
+            x.digest();
         }
     }
 }
