@@ -1,28 +1,18 @@
-import com.sun.source.tree.AssertTree;
 import com.sun.source.tree.BlockTree;
 import com.sun.source.tree.ClassTree;
 import com.sun.source.tree.CompilationUnitTree;
-import com.sun.source.tree.DoWhileLoopTree;
 import com.sun.source.tree.ForLoopTree;
 import com.sun.source.tree.IdentifierTree;
-import com.sun.source.tree.ImportTree;
-import com.sun.source.tree.LambdaExpressionTree;
-import com.sun.source.tree.LiteralTree;
-import com.sun.source.tree.MemberReferenceTree;
 import com.sun.source.tree.MemberSelectTree;
 import com.sun.source.tree.MethodInvocationTree;
 import com.sun.source.tree.MethodTree;
 import com.sun.source.tree.NewArrayTree;
 import com.sun.source.tree.NewClassTree;
-import com.sun.source.tree.SynchronizedTree;
-import com.sun.source.tree.ThrowTree;
 import com.sun.source.tree.Tree;
-import com.sun.source.tree.TryTree;
-import com.sun.source.tree.TypeCastTree;
 import com.sun.source.tree.VariableTree;
-import com.sun.source.tree.WhileLoopTree;
 import com.sun.source.util.TreeScanner;
 import java.util.ArrayList;
+import java.util.EnumSet;
 import java.util.HashMap;
 import java.util.List;
 import java.util.Map;
@@ -37,6 +27,10 @@ import javax.lang.model.element.Modifier;
 final class LanguageRules extends TreeScanner<Void, Void> {
     private static final Set<String> LIBRARY = Set.of("System.arraycopy", "Math.floorMod", "Math.floorDiv", "Math.min",
         "Math.max", "Math.abs", "Arrays.fill", "Arrays.copyOf");
+    private static final Set<Tree.Kind> RULED_OUT = EnumSet.of(Tree.Kind.THROW, Tree.Kind.TRY, Tree.Kind.ASSERT,
+        Tree.Kind.SYNCHRONIZED, Tree.Kind.LAMBDA_EXPRESSION, Tree.Kind.MEMBER_REFERENCE, Tree.Kind.TYPE_CAST,
+        Tree.Kind.INSTANCE_OF, Tree.Kind.IMPORT, Tree.Kind.PACKAGE, Tree.Kind.ANNOTATION, Tree.Kind.WHILE_LOOP,
+        Tree.Kind.DO_WHILE_LOOP, Tree.Kind.STRING_LITERAL, Tree.Kind.NULL_LITERAL, Tree.Kind.ENUM, Tree.Kind.RECORD);
     private static final int CLASSES = 12, FIELDS = 20, PARAMETERS = 7, LINES = 60, DEPTH = 8;
 
     private final Set<String> face;
@@ -88,6 +82,12 @@ final class LanguageRules extends TreeScanner<Void, Void> {
             }
         }
         return deepest;
+    }
+
+    @Override
+    public Void scan(Tree tree, Void none) {
+        need(tree == null || !RULED_OUT.contains(tree.getKind()), tree, "ruled out");
+        return super.scan(tree, none);
     }
 
     @Override
@@ -172,66 +172,5 @@ final class LanguageRules extends TreeScanner<Void, Void> {
     public Void visitForLoop(ForLoopTree tree, Void none) {
         need(tree.getCondition() != null && !tree.getUpdate().isEmpty(), tree, "a loop whose end is not seen");
         return super.visitForLoop(tree, none);
-    }
-
-    @Override
-    public Void visitLiteral(LiteralTree tree, Void none) {
-        need(tree.getKind() != Tree.Kind.STRING_LITERAL && tree.getKind() != Tree.Kind.NULL_LITERAL, tree, "a text or null");
-        return super.visitLiteral(tree, none);
-    }
-
-    private Void ruledOut(Tree tree) {
-        need(false, tree, "ruled out, a " + tree.getKind());
-        return null;
-    }
-
-    @Override
-    public Void visitWhileLoop(WhileLoopTree tree, Void none) {
-        return ruledOut(tree);
-    }
-
-    @Override
-    public Void visitDoWhileLoop(DoWhileLoopTree tree, Void none) {
-        return ruledOut(tree);
-    }
-
-    @Override
-    public Void visitThrow(ThrowTree tree, Void none) {
-        return ruledOut(tree);
-    }
-
-    @Override
-    public Void visitTry(TryTree tree, Void none) {
-        return ruledOut(tree);
-    }
-
-    @Override
-    public Void visitAssert(AssertTree tree, Void none) {
-        return ruledOut(tree);
-    }
-
-    @Override
-    public Void visitSynchronized(SynchronizedTree tree, Void none) {
-        return ruledOut(tree);
-    }
-
-    @Override
-    public Void visitLambdaExpression(LambdaExpressionTree tree, Void none) {
-        return ruledOut(tree);
-    }
-
-    @Override
-    public Void visitMemberReference(MemberReferenceTree tree, Void none) {
-        return ruledOut(tree);
-    }
-
-    @Override
-    public Void visitTypeCast(TypeCastTree tree, Void none) {
-        return ruledOut(tree);
-    }
-
-    @Override
-    public Void visitImport(ImportTree tree, Void none) {
-        return ruledOut(tree);
     }
 }
