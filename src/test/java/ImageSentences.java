@@ -9,6 +9,7 @@ final class ImageSentences {
         nodes();
         sizesAndBytes();
         equalImages();
+        differentInOneByte();
         numbering();
         atMostEight();
         codes();
@@ -187,7 +188,47 @@ final class ImageSentences {
             """);
     }
 
+    /** Two chains of five blocks of 12 bytes: equal, and with one byte that is not, at all places. */
+    private static void differentInOneByte() {
+        Script equal = says("Images that are equal in all this are the same");
+        chain(equal, 0, -1, 0);
+        equal.due("copy(5, 0) = 2; freeze(5) = 0");
+        chain(equal, 5, -1, 0);
+        equal.due("like(9) = 0; freeze(0) = 0; count(1) = 1; image(0, 0) = 5; image(0, 1) = 60");
+        for (int node = 0; node < 5; node++) {
+            for (int k = 0; k < 12; k++) {
+                Script s = says("It consists of the sizes and the bytes of all nodes");
+                chain(s, 0, -1, 0);
+                s.due("copy(5, 0) = 2");
+                chain(s, 5, node, k);
+                s.due("freeze(5) = 0; like(9) = -1; like(4) = 0; freeze(0) = 1; like(9) = 1; like(4) = 0");
+            }
+        }
+    }
+
+    /** Makes blocks from this one on, each with a pointer to the one before it; register 0 points to the last. */
+    private static void chain(Script s, int first, int nodeWithNumber, int k) {
+        for (int node = 4; node >= 0; node--) {
+            s.due(first + 4 - node, "make", 1, 12);
+            if (node < 4) {
+                s.due("store(1, 0, 2) = 0");
+            }
+            if (node == nodeWithNumber) {
+                s.due("set(2, 7) = 7").due(k, "move", 1, k).due(k, "store", 1, 2, 1).due(0, "move", 1, -k);
+            }
+            s.due("copy(0, 1) = 2");
+        }
+    }
+
     private static void numbering() {
+        // an image is not numbered anew, with however many others there are
+        Script again = says("they are numbered from 0 in the order in which they are first frozen");
+        for (int i = 0; i < 8; i++) {
+            again.due(i, "make", i % 5, i + 1).due(i, "freeze", i % 5);
+            for (int earlier = Math.max(0, i - 4); earlier <= i; earlier++) {
+                again.due(earlier, "freeze", earlier % 5).due(i + 1, "count", 1).due(earlier, "like", earlier);
+            }
+        }
         says("they are numbered from 0 in the order in which they are first frozen").due("""
             make(0, 3) = 0; make(1, 2) = 1; make(2, 1) = 2; freeze(2) = 0; freeze(0) = 1; freeze(2) = 0; freeze(1) = 2;
             image(0, 1) = 1; image(1, 1) = 3; image(2, 1) = 2; count(1) = 3; back() = 4; back() = 3; back() = 2;

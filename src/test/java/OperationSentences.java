@@ -105,6 +105,12 @@ final class OperationSentences {
             register(2, 0) = 2; register(2, 1) = 0; register(2, 2) = 4; copy(2, 3) = 0; register(2, 0) = 0;
             register(2, 1) = -1; register(2, 2) = -1; copy(0, 3) = 0; register(0, 0) = 0; register(1, 2) = 4
             """);
+        // pointers to ended and to constant blocks are copied, moved over and forgotten as others are
+        says("copy r, q: r becomes what q is, also uninitialized.").due("""
+            make(0, 4) = 0; copy(1, 0) = 2; move(1, 3) = 3; end(0) = 0; copy(2, 1) = 2; register(2, 0) = 2; register(2, 1) = 0;
+            register(2, 2) = 3; copy(1, 1) = 2; copy(1, 0) = 2; register(1, 2) = 0; forget(0) = 2; set(1, 3) = 3; make(3, 2) = 1;
+            freeze(3) = 0; copy(2, 3) = 2; register(2, 1) = 1; register(2, 2) = 0
+            """).does("c4 2;c2 5;", 2).due("register(4, 1) = 1; register(2, 0) = 0");
         promise(5, "Carries out copy.").due("set(0, 5) = 5; copy(1, 0) = 1; register(1, 1) = 5; register(0, 1) = 5; count(9) = 2");
         eachRegister(5, REGISTER, "set(0, 3) = 3", "copy(R, 0)", 1);
         eachRegister(5, OTHER, "set(R, 3) = 3", "copy(0, R)", 1);

@@ -16,6 +16,7 @@ final class ProgramSentences {
         minusSigns();
         spaces();
         errorPosition();
+        textAfterText();
         carriedOut();
         jumpAway();
         steps();
@@ -217,6 +218,18 @@ final class ProgramSentences {
             .does("v0 -", -14).does("s0 1;s", -16).does("e", -11).does("e0", -12).does("s0 12345", -18).does("s0 1; ", 1)
             .due("register(0, 1) = 1").does("w0 0", -14).does("w0 0 ", -15).does("w0 0 1", -16);
         says("(also if it is empty or has only spaces)").due("does() = -10; clear() = 0; does() = -10").does(" ".repeat(120), -130);
+    }
+
+    /** Nothing of a text that was no program is left for the next one. */
+    private static void textAfterText() {
+        for (String wrong : new String[] {"v0 -", "v0 -x", "v0 - 1;", "v0-", "v0 -1", "s", "s1", "s12345", "s1 ", "d1 2 3", "s123456",
+            "s0 1;s1", "e", "x", "", "s1 2 3"}) {
+            Script s = says("The error position is the index, from 0 on, of the first byte that is not allowed at its place");
+            s.typed(wrong).check("does() is refused", s.ask("does") <= -10 ? 1 : 0, 1);
+            s.does("s1 5;", 1).due("register(1, 1) = 5").typed(wrong).check("does() is refused", s.ask("does") <= -10 ? 1 : 0, 1);
+            s.does(" 1;", -11).does("", -10).does(";", -10).typed(wrong).check("does() is refused", s.ask("does") <= -10 ? 1 : 0, 1);
+            s.does("v1 3;e5;", -5001).does("v1 3;", 1).due("register(1, 1) = 8");
+        }
     }
 
     private static void carriedOut() {
